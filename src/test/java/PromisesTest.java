@@ -671,6 +671,7 @@ public final class PromisesTest {
             "left", "right"}) {
             faulty(2, 4, "way " + word + ";");
         }
+        begin(18, 3);
         faulty(2, 4, "way 1;");
         faulty(2, 6, "way a left;");
         faulty(2, 6, "way a b;");
@@ -689,6 +690,7 @@ public final class PromisesTest {
         faulty(2, 10, "memory 1 1");
         faulty(2, 11, "memory 1 1 1;");
         faulty(2, 13, "memory 1 1   ");
+        begin(18, 3);
         faulty(3, 11, "way a wait 0;");
         faulty(3, 11, "way a wait 21;");
         faulty(3, 16, "way a move left 0;");

@@ -45,7 +45,8 @@ public final class RandomTest {
         if (style > 1) {
             setTable();
         }
-        for (int i = 0; i < calls && wrong == 0; i++) {
+        // an object is used for at most 512 calls
+        for (int i = 0; i < calls && log.size() < 480 && wrong == 0; i++) {
             int kind = random.nextInt(100);
             int early = i * 3 < calls || style == 0 ? 50 : 15;
             if (kind < early) {
