@@ -1121,7 +1121,7 @@ public final class RapTable {
         }
 
         boolean isFree(int hand, int second) {
-            return isLoose(hand, second) && holdersOf(hand, second) == 0;
+            return ((holding[second] | tied[second]) >> hand & 1) == 0 && holders[second * MOST_HANDS + hand] == 0;
         }
     }
 
@@ -1237,7 +1237,8 @@ public final class RapTable {
             into.clear();
             advance();
             for (int line = 0; token != END && line < MOST_BYTES; line++) {
-                if (!readLine(into)) {
+                boolean sound = token == WORD_WAY ? readWay(into) : token == WORD_MEMORY ? readMemory(into) : fail(2);
+                if (!sound) {
                     return false;
                 }
             }
@@ -1249,14 +1250,10 @@ public final class RapTable {
             return false;
         }
 
-        private boolean readLine(Ways into) {
-            if (token == WORD_WAY) {
-                return into.size < MOST_WAYS ? readWay(into) : fail(5);
-            }
-            return token == WORD_MEMORY ? readMemory(into) : fail(2);
-        }
-
         private boolean readWay(Ways into) {
+            if (into.size >= MOST_WAYS) {
+                return fail(5);
+            }
             advance();
             if (token != NAME) {
                 return fail(2);
@@ -1424,20 +1421,13 @@ public final class RapTable {
             for (int way = 0; way < into.length; way++) {
                 into[way] = 0;
                 for (int teller = 0; way < ways.size && teller < room.seats; teller++) {
-                    if (firstFit(way, teller, 0) != NONE || friend && fitsWithFriend(way, teller)) {
-                        into[way] |= 1 << teller;
+                    boolean fits = firstFit(way, teller, 0) != NONE;
+                    for (int other = 0; friend && !fits && other < room.seats; other++) {
+                        fits = other != teller && firstFit(way, teller, 1 << other) != NONE;
                     }
+                    into[way] |= fits ? 1 << teller : 0;
                 }
             }
-        }
-
-        private boolean fitsWithFriend(int way, int teller) {
-            for (int other = 0; other < room.seats; other++) {
-                if (other != teller && firstFit(way, teller, 1 << other) != NONE) {
-                    return true;
-                }
-            }
-            return false;
         }
 
         boolean anyFits() {
@@ -1658,7 +1648,7 @@ public final class RapTable {
         private final int[] onward = new int[SECONDS * MOST_SPOTS];
         private final int[] soonest = new int[MOST_SPOTS];
         private final int[] sooner = new int[MOST_SPOTS];
-        private final int[] latest = new int[(MOST_SPOTS + 1) * MOST_SPOTS];
+        private final int[] latest = new int[MOST_SPOTS * MOST_SPOTS];
         final int[] hops = new int[3 * MOST_SPOTS];
 
         Route(Room room, Task task, Watch watch) {
@@ -1769,7 +1759,7 @@ public final class RapTable {
             for (int spot = 0; spot < MOST_SPOTS; spot++) {
                 latest[spot] = spot == task.spot ? SECONDS : NONE;
             }
-            for (int left = 1; left <= count; left++) {
+            for (int left = 1; left < count; left++) {
                 for (int spot = 0; spot < MOST_SPOTS; spot++) {
                     int found = NONE;
                     for (int second = end; second >= task.from && found == NONE; second--) {

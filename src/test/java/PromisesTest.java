@@ -366,16 +366,18 @@ public final class PromisesTest {
         begin(9, 5);
         x.thing(1);
         due(0, x.move(2, 0, 5, 10), "move");
+        due(NONE, x.move(0, 0, 4, 9), "the only move is in a later second");
+        due(1, x.status(5), "status(5)");
         due(1, x.move(0, 0, 4, 10), "in the same second");
         due(4, x.where(0, 10), "where");
         due(NONE, x.move(10, 0, 5, 20), "no such hand");
         due(NONE, x.move(0, 1, 5, 20), "no such thing");
         due(NONE, x.move(0, 0, 6, 20), "no such spot");
         due(NONE, x.move(0, -1, 5, 100), "of several the least");
-        refusals(4, 0, 0, 0, 0);
+        refusals(4, 0, 0, 0, 1);
         due(NONE, x.move(0, 0, 5, 100), "no such second");
         due(NONE, x.move(0, 0, 5, -1), "no such second");
-        refusals(4, 2, 0, 0, 0);
+        refusals(4, 2, 0, 0, 1);
         due(NONE, x.move(0, 0, 4, 20), "it lies there");
         due(NONE, x.move(0, 0, 5, 9), "a move is in a later second");
         due(NONE, x.move(0, 0, 2, 20), "doesn't reach where it goes");
@@ -384,7 +386,7 @@ public final class PromisesTest {
         due(NONE, x.move(0, 0, 5, 20), "the hand holds one");
         x.hold(3, 1, 1, 20, 20);
         due(NONE, x.move(1, 0, 5, 20), "the hand is held");
-        refusals(4, 2, 0, 0, 6);
+        refusals(4, 2, 0, 0, 7);
         x.hold(3, 1, 5, 20, 20);
         due(2, x.move(1, 0, 5, 20), "it only seems held");
         for (int i = 3; i < 40; i++) {
@@ -393,7 +395,7 @@ public final class PromisesTest {
         due(NONE, x.move(9, 0, 0, 99), "no room");
         due(NONE, x.move(9, 0, 0, 0), "of several the least");
         due(NONE, x.move(9, 0, 0, 100), "of several the least");
-        refusals(4, 3, 2, 0, 6);
+        refusals(4, 3, 2, 0, 7);
         due(40, x.count(3), "count(3)");
     }
 
@@ -714,8 +716,19 @@ public final class PromisesTest {
         faulty(2, 46, steps + " left;");
         faulty(1, 46, steps + " leftleftleft;");
         sound(1, steps + ";");
+        // TEXTS that fill THE TAPE to its last byte
+        faulty(2, 400, blanks(390) + "way a wait");
+        faulty(2, 400, blanks(388) + "way a wait 1");
+        faulty(1, 396, blanks(396) + "1000");
+        faulty(2, 397, blanks(397) + "100");
+        faulty(1, 391, blanks(391) + "abcdefghi");
+        sound(1, blanks(394) + "way a;");
         faulty(2, 6, "way a x #");
         faulty(3, 11, "way a wait 0 #");
+    }
+
+    private static String blanks(int n) {
+        return " ".repeat(n);
     }
 
     private static void fault() {
@@ -1192,6 +1205,20 @@ public final class PromisesTest {
         x.report(3, 0, 0, 2, 10, 12, 0);
         due(NONE, x.least(0, 0), "no hand reaches both");
         due(2, x.least(1, 0), "person 1 reaches both");
+        for (int person = 0; person < 9; person++) {
+            x.attend(person, 1, 10, 12);
+        }
+        due(2, x.least(1, 0), "guarded by all");
+        due(10, x.least(1, 1), "guarded by all");
+        due(8, x.least(1, 2), "guarded by all");
+        x.attend(0, 0, 10, 12);
+        x.hold(0, 2, 3, 12, 12);
+        x.move(1, 0, 1, 10);
+        x.report(3, 0, 0, 3, 10, 12, 0);
+        x.report(3, 0, 0, 3, 11, 12, 0);
+        due(NONE, x.least(2, 0), "it lies at 0 ahead of 10");
+        due(4, x.least(3, 0), "it lies at 1 ahead of 11");
+        due(11, x.least(3, 1), "it lies at 1 ahead of 11");
         refusals(0, 0, 0, 0, 0);
     }
 
@@ -1298,6 +1325,7 @@ public final class PromisesTest {
         due(NONE, x.culprits(1 << 30), "none such");
         due(NONE, x.culprits(16), "there are none");
         due(NONE, x.culprits(17), "there are none");
+        due(NONE, x.culprits(1 << 29), "none such");
         // each of 0, 1 and 5 is seen by one; watchers must be of the set
         x.attend(4, 6, 0, 99);
         due(17, x.culprits(1), "0 and 4, who watches");
@@ -1318,6 +1346,10 @@ public final class PromisesTest {
         x.hold(1, 2, 2, 29, 29);
         due(2, x.culprits((1 << 30) - 1), "0 can't in 29");
         due(1, x.culprits((1 << 29) - 1), "without the last");
+        x.room(3);
+        x.thing(0);
+        x.report(2, 1, 0, 1, 0, 9, 0);
+        due(NONE, x.culprits(1), "no report (0)");
     }
 
     private static void record() {

@@ -1,6 +1,8 @@
 import java.io.DataInputStream;
 import java.io.IOException;
 import java.io.InputStream;
+import java.io.PrintWriter;
+import java.io.StringWriter;
 import java.lang.reflect.Field;
 import java.lang.reflect.Method;
 import java.lang.reflect.Modifier;
@@ -10,10 +12,13 @@ import java.nio.file.Path;
 import java.util.ArrayList;
 import java.util.Arrays;
 import java.util.List;
+import java.util.Map;
 import java.util.Set;
+import java.util.TreeMap;
 import java.util.TreeSet;
 import java.util.regex.Matcher;
 import java.util.regex.Pattern;
+import java.util.spi.ToolProvider;
 
 /** The rules of LANGUAGE.md, as far as the source's text and the compiled classes show them. */
 public final class RulesTest {
@@ -49,6 +54,7 @@ public final class RulesTest {
             members(each);
             library(each);
         }
+        depth();
         due(source.chars().allMatch(c -> c == 10 || c >= 32 && c < 127), "4: signs are 1 to 127");
         System.out.println(wrong == 0 ? "the rules are kept" : wrong + " rules are broken");
         if (wrong != 0) {
@@ -129,6 +135,50 @@ public final class RulesTest {
             due(lines <= 60, "11: " + m.group(2) + " has " + lines + " lines");
         }
         due(methods > 100, "the methods are found, not only " + methods);
+    }
+
+    /** How deep calls go, by what javap tells of the compiled classes. */
+    private static void depth() {
+        StringWriter told = new StringWriter();
+        PrintWriter out = new PrintWriter(told);
+        String path = System.getProperty("java.class.path");
+        List<String> call = new ArrayList<>(List.of("-c", "-p", "-cp", path, "RapTable"));
+        for (Class<?> each : RapTable.class.getDeclaredClasses()) {
+            call.add(each.getName());
+        }
+        ToolProvider.findFirst("javap").orElseThrow().run(out, out, call.toArray(new String[0]));
+        Map<String, Set<String>> calls = new TreeMap<>();
+        String owner = "";
+        String method = "";
+        for (String line : told.toString().split("\n")) {
+            Matcher head = Pattern.compile("^[a-z ]*class (\\S+) \\{").matcher(line);
+            Matcher name = Pattern.compile("^  [^(]*?(\\S+)\\(.*\\);$").matcher(line);
+            Matcher inner = Pattern.compile("// Method (\\S+?):").matcher(line);
+            if (head.find()) {
+                owner = head.group(1);
+            } else if (name.find()) {
+                method = owner + "." + (name.group(1).equals(owner) ? "<init>" : name.group(1));
+                calls.put(method, new TreeSet<>());
+            } else if (inner.find() && !inner.group(1).startsWith("java/")) {
+                String to = inner.group(1).replace("\"", "");
+                calls.get(method).add(to.contains(".") ? to : owner + "." + to);
+            }
+        }
+        due(calls.size() > 100, "the calls are found, not only " + calls.size());
+        for (String each : calls.keySet()) {
+            String chain = deepest(each, calls, 1);
+            int deep = chain.split(" ").length;
+            due(deep <= 8, "11: " + deep + " deep: " + chain);
+        }
+    }
+
+    private static String deepest(String method, Map<String, Set<String>> calls, int depth) {
+        String most = "";
+        for (String to : calls.getOrDefault(method, Set.of())) {
+            String chain = depth > 30 ? "" : deepest(to, calls, depth + 1);
+            most = chain.split(" ").length > most.split(" ").length || most.isEmpty() ? chain : most;
+        }
+        return most.isEmpty() ? method : method + " " + most;
     }
 
     /** Every method of the library that the compiled class names. */
