@@ -1,3 +1,5 @@
+import java.util.Arrays;
+
 /**
  * A table that raps: who sits at it, what their hands truly do in the dark, by which ways a thing can be
  * moved unseen, what is told of it afterwards, and which controls would close those ways.
@@ -236,22 +238,21 @@ public final class RapTable {
         if (!room.hasHand(hand) || !isSecond(second)) {
             return NONE;
         }
-        return vouchersOf(watchNow(), hand, second, truly);
+        return vouchersOf(hand, second, truly);
     }
 
     public int gap(int hand, boolean truly, int what) {
         if (!room.hasHand(hand) || !within(what, 0, 3)) {
             return NONE;
         }
-        Watch watch = watchNow();
         int gaps = 0;
         int first = NONE;
         int run = 0;
         int longest = 0;
         int believed = 0;
         for (int second = 0; second < SECONDS; second++) {
-            boolean vouched = vouchersOf(watch, hand, second, true) != 0;
-            boolean said = vouchersOf(watch, hand, second, false) != 0;
+            boolean vouched = vouchersOf(hand, second, true) != 0;
+            boolean said = vouchersOf(hand, second, false) != 0;
             if (!vouched && said) {
                 believed++;
             }
@@ -708,12 +709,10 @@ public final class RapTable {
         return forced;
     }
 
-    private int vouchersOf(Watch watch, int hand, int second, boolean truly) {
-        if (truly) {
-            return watch.vouchers(hand, second);
-        }
+    private int vouchersOf(int hand, int second, boolean truly) {
         int person = hand / 2;
-        return (room.seemingHolders(hand, second) | watch.seers(person, second)) & ~(1 << person);
+        int holders = room.holdersOf(truly ? room.truly : room.seems, hand, second);
+        return (holders | room.seersOf(person, second)) & ~(1 << person);
     }
 
     private boolean closesTask(int set) {
@@ -745,7 +744,15 @@ public final class RapTable {
     }
 
     private boolean allPass(int set, int persons) {
-        route.chart(watchNow(), persons, 0, SECONDS - 1);
+        int first = SECONDS - 1;
+        int last = 0;
+        for (int report = 0; report < reports.size; report++) {
+            if ((set >> report & 1) != 0) {
+                first = Math.min(first, reports.from[report]);
+                last = Math.max(last, reports.to[report]);
+            }
+        }
+        route.chart(watchNow(), persons, first, last);
         for (int report = 0; report < reports.size; report++) {
             if ((set >> report & 1) != 0 && !(setTaskOf(report) && route.leadsThere())) {
                 return false;
@@ -819,20 +826,12 @@ public final class RapTable {
 
         void begin(int newSeats) {
             seats = newSeats;
-            for (int second = 0; second < SECONDS; second++) {
-                light[second] = 9;
-            }
-            for (int person = 0; person < MOST_SEATS; person++) {
-                need[person] = 5;
-                firm[person] = 0;
-            }
-            for (int i = 0; i < eyes.length; i++) {
-                eyes[i] = NONE;
-            }
-            for (int i = 0; i < truly.length; i++) {
-                seems[i] = NONE;
-                truly[i] = NONE;
-            }
+            Arrays.fill(light, 9);
+            Arrays.fill(need, 5);
+            Arrays.fill(firm, 0);
+            Arrays.fill(eyes, NONE);
+            Arrays.fill(seems, NONE);
+            Arrays.fill(truly, NONE);
             leads = 0;
             things = 0;
             moves = 0;
@@ -936,22 +935,25 @@ public final class RapTable {
         }
 
         boolean isFree(int hand, int second) {
-            if (truly[hand * SECONDS + second] != NONE) {
-                return false;
-            }
-            for (int other = 0; other < 2 * seats; other++) {
-                if (truly[other * SECONDS + second] == hand) {
-                    return false;
-                }
-            }
-            return true;
+            return truly[hand * SECONDS + second] == NONE && holdersOf(truly, hand, second) == 0;
         }
 
-        int seemingHolders(int hand, int second) {
+        // Who holds a HAND by one of both tellings, what HANDS seem to hold or what they truly hold.
+        int holdersOf(int[] held, int hand, int second) {
             int persons = 0;
             for (int other = 0; other < 2 * seats; other++) {
-                if (seems[other * SECONDS + second] == hand) {
+                if (held[other * SECONDS + second] == hand) {
                     persons |= 1 << other / 2;
+                }
+            }
+            return persons;
+        }
+
+        int seersOf(int spot, int second) {
+            int persons = 0;
+            for (int person = 0; person < seats; person++) {
+                if (light[second] >= need[person] && eyesOf(person, second) == spot) {
+                    persons |= 1 << person;
                 }
             }
             return persons;
@@ -1015,19 +1017,19 @@ public final class RapTable {
         final int[] soft = new int[PULLS];
 
         void watchOver(Room room) {
-            for (int pull = 0; pull < soft.length; pull++) {
-                soft[pull] = 0;
-                for (int person = 0; person < room.seats; person++) {
-                    soft[pull] |= room.firm[person] < pull ? 1 << person : 0;
-                }
-            }
+            Room.copy(room.light, light);
+            Arrays.fill(looking, 0);
+            Arrays.fill(pinned, 0);
+            Arrays.fill(tied, 0);
+            Arrays.fill(holding, 0);
+            Arrays.fill(holders, 0);
             for (int second = 0; second < SECONDS; second++) {
-                light[second] = room.light[second];
                 able[second] = ableBy(room, light[second]);
-                pinned[second] = 0;
-                tied[second] = 0;
                 noteEyes(room, second);
                 noteHands(room, second);
+            }
+            for (int pull = 0; pull < PULLS; pull++) {
+                soft[pull] = softFor(room, pull);
             }
         }
 
@@ -1039,10 +1041,15 @@ public final class RapTable {
             return persons;
         }
 
-        void noteEyes(Room room, int second) {
-            for (int spot = 0; spot < MOST_SPOTS; spot++) {
-                looking[second * MOST_SPOTS + spot] = 0;
+        static int softFor(Room room, int pull) {
+            int persons = 0;
+            for (int person = 0; person < room.seats; person++) {
+                persons |= room.firm[person] < pull ? 1 << person : 0;
             }
+            return persons;
+        }
+
+        void noteEyes(Room room, int second) {
             for (int person = 0; person < room.seats; person++) {
                 int spot = room.eyesOf(person, second);
                 if (room.hasSpot(spot)) {
@@ -1052,10 +1059,6 @@ public final class RapTable {
         }
 
         void noteHands(Room room, int second) {
-            holding[second] = 0;
-            for (int hand = 0; hand < MOST_HANDS; hand++) {
-                holders[second * MOST_HANDS + hand] = 0;
-            }
             for (int hand = 0; hand < 2 * room.seats; hand++) {
                 int held = room.truly[hand * SECONDS + second];
                 if (room.hasHand(held)) {

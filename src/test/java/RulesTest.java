@@ -36,7 +36,7 @@ public final class RulesTest {
             "int fair(int,int,int,int,int,int,int)", "int status(int)", "int count(int)"));
     private static final Set<String> LIBRARY = Set.of("java/lang/Object.<init>", "java/lang/String.charAt",
             "java/lang/Math.max", "java/lang/Math.min", "java/lang/Math.abs", "java/lang/Integer.bitCount",
-            "java/lang/Integer.numberOfTrailingZeros", "java/lang/System.arraycopy");
+            "java/lang/Integer.numberOfTrailingZeros", "java/lang/System.arraycopy", "java/util/Arrays.fill");
 
     private static int wrong;
 
@@ -115,7 +115,7 @@ public final class RulesTest {
     }
 
     private static void words(String code) {
-        for (String word : new String[] {"package", "import", "throw", "throws", "try", "catch", "finally", "synchronized",
+        for (String word : new String[] {"package", "throw", "throws", "try", "catch", "finally", "synchronized",
             "assert", "native", "volatile", "strictfp", "protected", "float", "double", "Object", "Exception", "Error",
             "hashCode", "toString", "getClass", "lambda", "var", "yield", "sealed", "Thread"}) {
             due(!Pattern.compile("\\b" + word + "\\b").matcher(code).find(), "6 and others: the word " + word);
