@@ -1665,15 +1665,21 @@ public final class RapTable {
             watch = newWatch;
             persons = set;
             for (int second = from; second <= to; second++) {
-                int open = openSpots(second);
-                int able = ablePersons(second);
-                for (int spot = 0; spot < MOST_SPOTS; spot++) {
-                    int reached = 0;
-                    for (int person = 0; (open >> spot & 1) != 0 && person < room.seats; person++) {
-                        int reach = room.reachOf(person);
-                        reached |= (able & 1 << person) != 0 && (reach >> spot & 1) != 0 ? reach : 0;
+                chartSecond(second, openSpots(second));
+            }
+        }
+
+        private void chartSecond(int second, int open) {
+            int row = second * MOST_SPOTS;
+            for (int spot = 0; spot < MOST_SPOTS; spot++) {
+                onward[row + spot] = 0;
+            }
+            for (int person = 0; person < room.seats; person++) {
+                if (isAble(2 * person, second) || isAble(2 * person + 1, second)) {
+                    int reached = room.reachOf(person) & open;
+                    for (int spot = 0; spot <= room.seats; spot++) {
+                        onward[row + spot] |= (reached >> spot & 1) != 0 ? reached & ~(1 << spot) : 0;
                     }
-                    onward[second * MOST_SPOTS + spot] = reached & open & ~(1 << spot);
                 }
             }
         }
@@ -1684,14 +1690,6 @@ public final class RapTable {
                 open |= (watch.seers(spot, second) & ~persons) == 0 ? 1 << spot : 0;
             }
             return open;
-        }
-
-        private int ablePersons(int second) {
-            int able = 0;
-            for (int hand = 0; hand < 2 * room.seats; hand++) {
-                able |= isAble(hand, second) ? 1 << hand / 2 : 0;
-            }
-            return able;
         }
 
         private boolean isAble(int hand, int second) {
