@@ -142,17 +142,34 @@ public final class ControlsEdgesTest {
         EDGES.asked(1, x -> x.closes(0, 0, 3, 0, 9));
         EDGES.refused(0, x -> x.closes(1, 0, 3, 0, 9));
         EDGES.says("if with it in force no WAY FITS for anybody alone");
-        EDGES.scene(x -> {
+        Edges.Scene dimSecond = x -> {
             x.room(4);
             x.thing(0);
             Edges.tell(x, "way a dark 3;");
             x.light(50, 50, 3);
-        });
+        };
+        EDGES.scene(dimSecond);
         EDGES.asked(0, x -> x.closes(0, 0, 4, 50, 50));
         EDGES.asked(0, x -> x.closes(0, 0, 4, 0, 99));
         EDGES.asked(1, x -> x.closes(0, 0, 4, 0, 49));
         EDGES.asked(1, x -> x.closes(0, 0, 4, 51, 99));
         EDGES.asked(1, x -> x.closes(0, 0, 0, 0, 99));
+        EDGES.says("anybody: of PERSONS that there are, in every ring");
+        for (int n = 3; n <= 9; n++) {
+            int seats = n;
+            EDGES.scene(x -> {
+                x.room(seats);
+                x.thing(seats - 1);
+                Edges.tell(x, "way a free left;");
+                for (int person = 0; person < seats; person++) {
+                    x.hold(2 * person, 2 * ((person + 1) % seats) + 1, 2 * ((person + 1) % seats) + 1, 0, 99);
+                }
+            });
+            EDGES.asked(1, x -> x.closes(0, 0, seats, 0, 99));
+            EDGES.leaves(x -> bit(x.hold(0, NONE, NONE, 99, 99)), 0, x -> x.closes(0, 0, seats, 0, 99));
+            EDGES.leaves(x -> bit(x.hold(2 * seats - 2, NONE, NONE, 99, 99)), 0, x -> x.closes(0, 0, seats, 0, 99));
+        }
+        EDGES.scene(dimSecond);
         EDGES.says("alone: a FRIEND doesn't help");
         EDGES.leaves(x -> Edges.tell(x, "way a move left 1;") + bit(x.attend(2, 4, 0, 99)), 1,
                 x -> x.closes(0, 0, 4, 0, 49));
@@ -371,7 +388,7 @@ public final class ControlsEdgesTest {
     }
 
     private static void nextOf() {
-        EDGES.promise(35, x -> {
+        Edges.Scene threeWays = x -> {
             x.room(5);
             x.thing(0);
             x.report(0, 0, 0, 5, 10, 20, 0);
@@ -383,7 +400,8 @@ public final class ControlsEdgesTest {
             x.control(0, 9, 0, 0, 99, 10);
             x.control(1, 0, 5, 0, 99, 30);
             x.control(0, 4, 0, 0, 99, 5);
-        });
+        };
+        EDGES.promise(35, threeWays);
         EDGES.says("of CONTROLS whose COST isn't above that");
         EDGES.asked(4, x -> x.next(0, 5));
         EDGES.asked(4, x -> x.next(0, 9));
@@ -403,7 +421,19 @@ public final class ControlsEdgesTest {
         // of a alone CONTROL 0 ends one of three, 1 none
         EDGES.leaves(x -> Edges.tell(x, "way a free left;"), 0, x -> x.next(0, MAX));
         EDGES.leaves(x -> Edges.tell(x, "way b free right;"), 2, x -> x.next(0, MAX));
+        EDGES.says("one that ends all and one that ends none are like");
+        EDGES.scene(x -> {
+            x.thing(0);
+            x.report(0, 0, 0, 3, 0, 9, 0);
+            Edges.tell(x, "way a dark 3;");
+            x.light(0, 99, 3);
+            x.control(1, 0, 4, 0, 99, 10);
+            x.control(1, 0, 3, 0, 99, 10);
+            x.control(1, 0, 9, 0, 99, 10);
+        });
+        EDGES.asked(0, x -> x.next(0, 10));
         EDGES.says("no STORIES: of like ones the least");
+        EDGES.scene(threeWays);
         EDGES.leaves(x -> Edges.tell(x, ""), 0, x -> x.next(0, MAX));
         EDGES.leaves(x -> Edges.tell(x, ""), 4, x -> x.next(0, 5));
         EDGES.says("those that a CONTROL opens aren't STORIES");

@@ -332,6 +332,9 @@ public final class ReportsEdgesTest {
         EDGES.leaves(x -> bit(x.attend(1, 5, 11, 11)), 4, x -> x.stories(0, false, 0));
         EDGES.leaves(x -> bit(x.attend(4, 5, 11, 11)), 6, x -> x.stories(0, true, 0));
         EDGES.leaves(x -> bit(x.attend(0, 5, 11, 11)), 6, x -> x.stories(0, true, 0));
+        EDGES.says("alone: PERSON 0 is nobody's FRIEND");
+        EDGES.leaves(x -> bit(x.attend(0, 5, 0, 99)), 4, x -> x.stories(0, false, 0));
+        EDGES.leaves(x -> bit(x.attend(0, 5, 0, 99)), 5, x -> x.stories(0, false, 2));
         EDGES.says("CONTROLS aren't in force");
         EDGES.leaves(x -> x.control(2, 2, 5, 0, 99, 1), 6, x -> x.stories(0, false, 0));
     }
@@ -375,7 +378,7 @@ public final class ReportsEdgesTest {
     }
 
     private static void leastGuarded() {
-        EDGES.promise(27, x -> {
+        Edges.Scene guarded = x -> {
             x.room(5);
             x.thing(0);
             x.report(3, 0, 0, 5, 10, 12, 0);
@@ -384,7 +387,8 @@ public final class ReportsEdgesTest {
                 x.attend((person + 2) % 5, NONE, 9, 9);
                 x.attend((person + 2) % 5, NONE, 13, 13);
             }
-        });
+        };
+        EDGES.promise(27, guarded);
         EDGES.says("of SECONDS a to b alone");
         EDGES.asked(0, x -> x.least(0, 0));
         EDGES.asked(10, x -> x.least(0, 1));
@@ -408,6 +412,21 @@ public final class ReportsEdgesTest {
         EDGES.says("that at which the THING lies ahead of SECOND a");
         EDGES.leaves(x -> x.move(2, 0, 2, 9), 2, x -> x.least(0, 0));
         EDGES.leaves(x -> x.move(2, 0, 2, 10), 0, x -> x.least(0, 0));
+        EDGES.says("of HANDS that there are, in every ring");
+        for (int n = 3; n <= 9; n++) {
+            int seats = n;
+            EDGES.scene(x -> {
+                x.room(seats);
+                x.thing(seats - 1);
+                x.report(0, 0, 0, seats, 0, 9, 0);
+                for (int person = 0; person < seats; person++) {
+                    x.attend((person + 1) % seats, person, 0, 99);
+                }
+            });
+            EDGES.asked(0, x -> x.least(0, 0));
+            EDGES.asked(1, x -> x.least(0, 2));
+        }
+        EDGES.scene(guarded);
         EDGES.says("TRULY: what SEEMS so isn't asked");
         EDGES.leaves(x -> bit(x.hold(2, 0, 8, 10, 12)), 0, x -> x.least(0, 0));
     }
@@ -536,17 +555,48 @@ public final class ReportsEdgesTest {
             int what = i;
             EDGES.asked(row[what], x -> x.pass(0, 4, 127, 0, 9, what));
         }
-        EDGES.says("as many HOPS as it takes: one neighbour after another");
+        EDGES.says("3 k, 3 k and 1, 3 k and 2: SECOND, HAND and SPOT of HOP k");
+        // 0 brings it to 1, 2 to 2, 3 to 4
+        int[] three = {0, 0, 1, 1, 4, 2, 2, 6, 4};
+        EDGES.asked(3, x -> x.pass(0, 4, 1 + 4 + 8, 0, 9, -1));
+        for (int i = 0; i < three.length; i++) {
+            int what = i;
+            EDGES.asked(three[what], x -> x.pass(0, 4, 1 + 4 + 8, 0, 9, what));
+        }
+        EDGES.refused(0, x -> x.pass(0, 4, 1 + 4 + 8, 0, 9, 9));
+        EDGES.says("each HOP as early as the others let it");
+        Edges.Call late = x -> bit(x.attend(7, 2, 0, 20) && x.attend(5, 4, 0, 49));
+        int[] lateThree = {0, 0, 1, 21, 4, 2, 50, 6, 4};
+        for (int i = 0; i < lateThree.length; i++) {
+            int what = i;
+            EDGES.leaves(late, lateThree[what], x -> x.pass(0, 4, 1 + 4 + 8, 0, 99, what));
+        }
+        EDGES.says("four HOPS");
+        int[] four = {0, 0, 1, 1, 4, 2, 2, 6, 4, 3, 10, 6};
+        EDGES.asked(4, x -> x.pass(0, 6, 1 + 4 + 8 + 32, 0, 9, -1));
+        EDGES.asked(NONE, x -> x.pass(0, 6, 1 + 4 + 8 + 32, 0, 2, -1));
+        for (int i = 0; i < four.length; i++) {
+            int what = i;
+            EDGES.asked(four[what], x -> x.pass(0, 6, 1 + 4 + 8 + 32, 0, 9, what));
+        }
+        EDGES.says("to SPOT 0");
         EDGES.scene(x -> {
             x.room(9);
-            x.thing(0);
-            x.attend(8, 9, 0, 99);
-            x.attend(7, 2, 0, 0);
-            x.attend(7, 3, 1, 1);
-            x.attend(7, 4, 2, 2);
+            x.thing(2);
+            x.thing(4);
         });
-        EDGES.asked(2, x -> x.pass(0, 4, 127, 0, 9, -1));
-        EDGES.asked(3, x -> x.pass(0, 4, 127, 0, 9, 3));
+        int[] direct = {5, 2, 0};
+        int[] twice = {5, 6, 9, 6, 0, 0};
+        EDGES.asked(1, x -> x.pass(0, 0, 511, 5, 9, -1));
+        EDGES.asked(2, x -> x.pass(1, 0, 1 + 8, 5, 9, -1));
+        for (int i = 0; i < 3; i++) {
+            int what = i;
+            EDGES.asked(direct[what], x -> x.pass(0, 0, 511, 5, 9, what));
+        }
+        for (int i = 0; i < 6; i++) {
+            int what = i;
+            EDGES.asked(twice[what], x -> x.pass(1, 0, 1 + 8, 5, 9, what));
+        }
     }
 
     private static void culprits() {
@@ -614,6 +664,15 @@ public final class ReportsEdgesTest {
         EDGES.leaves(x -> bit(x.attend(5, 6, 0, 99)), 32, x -> x.culprits(1));
         EDGES.leaves(x -> bit(x.attend(3, 6, 0, 99)), 9, x -> x.culprits(1));
         EDGES.leaves(x -> bit(x.attend(3, 6, 0, 99) && x.attend(4, 6, 0, 99)), 1 + 8 + 16, x -> x.culprits(1));
+        EDGES.says("by way of the MIDDLE");
+        EDGES.leaves(x -> bit(x.room(9)) + x.thing(0) + x.report(0, 0, 0, 4, 0, 9, 0), 1 + 8, x -> x.culprits(1));
+        EDGES.leaves(x -> bit(x.room(9)) + x.thing(0) + x.report(0, 0, 0, 4, 0, 9, 0) + bit(x.attend(8, 9, 0, 9)),
+                2 + 8, x -> x.culprits(1));
+        EDGES.says("from the SPOT at which it lies ahead of a");
+        EDGES.leaves(x -> x.move(0, 0, 6, 4) + x.report(0, 0, 0, 6, 5, 9, 0), 0, x -> x.culprits(8));
+        EDGES.leaves(x -> x.move(0, 0, 6, 5) + x.report(0, 0, 0, 6, 5, 9, 0), 1, x -> x.culprits(8));
+        EDGES.leaves(x -> x.move(0, 0, 6, 4) + x.report(0, 0, 0, 0, 5, 9, 0), 1, x -> x.culprits(8));
+        EDGES.leaves(x -> x.move(0, 0, 6, 5) + x.report(0, 0, 0, 0, 5, 9, 0), 0, x -> x.culprits(8));
         EDGES.says("all of them");
         EDGES.leaves(x -> bit(x.attend(0, 6, 0, 99) && x.attend(1, 6, 0, 99) && x.attend(2, 6, 0, 99)
                 && x.attend(3, 6, 0, 99) && x.attend(4, 6, 0, 99) && x.attend(5, 6, 0, 99)), 63, x -> x.culprits(1));

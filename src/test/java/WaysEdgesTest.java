@@ -31,6 +31,8 @@ public final class WaysEdgesTest {
         call();
         ready();
         move();
+        othersTurn();
+        asItIsNow();
         EDGES.end();
     }
 
@@ -809,6 +811,72 @@ public final class WaysEdgesTest {
         EDGES.leaves(x -> bit(x.attend(3, 5, 80, 80)), NONE, x -> x.fits(4, 0, 0, 0, 5, 0, 99));
         EDGES.says("move: the HAND needn't be FREE");
         EDGES.leaves(x -> bit(x.hold(0, 2, 2, 0, 99)), 48, x -> x.fits(0, 0, 0, 0, 5, 48, 99));
+    }
+
+    /** The same for a PERSON that isn't the first one, with the first one as its watcher or holder. */
+    private static void othersTurn() {
+        EDGES.promise(21, x -> {
+            x.room(4);
+            x.thing(1);
+            x.hold(4, 2, 2, 0, 99);
+            x.hold(0, 3, 3, 0, 99);
+            Edges.tell(x, "way a swap left move left 1;way b swap right move right 1;way c swap left move right 1;"
+                    + "way d swap right move left 1;way e swap right free right;way f swap right free left;way g swap left away;");
+        });
+        EDGES.says("swap: p's HAND of that SIDE, of both SIDES");
+        EDGES.asked(0, x -> x.fits(0, 1, 0, 0, 4, 0, 9));
+        EDGES.asked(0, x -> x.fits(1, 1, 0, 0, 4, 0, 9));
+        EDGES.asked(NONE, x -> x.fits(2, 1, 0, 0, 4, 0, 9));
+        EDGES.asked(NONE, x -> x.fits(3, 1, 0, 0, 4, 0, 9));
+        EDGES.asked(0, x -> x.fits(2, 1, 1, 0, 4, 0, 9));
+        EDGES.asked(0, x -> x.fits(3, 1, 4, 0, 4, 0, 9));
+        EDGES.asked(0, x -> x.fits(4, 1, 0, 0, 4, 0, 9));
+        EDGES.asked(NONE, x -> x.fits(5, 1, 0, 0, 4, 0, 9));
+        EDGES.says("it can see in a SECOND whose LIGHT is NEED or more: PERSON 0 for others");
+        EDGES.leaves(x -> bit(x.attend(0, 1, 0, 9)), NONE, x -> x.fits(0, 1, 0, 0, 4, 0, 9));
+        EDGES.leaves(x -> bit(x.attend(0, 1, 0, 9) && x.light(7, 7, 5)), NONE, x -> x.fits(0, 1, 0, 0, 4, 0, 9));
+        EDGES.leaves(x -> bit(x.attend(0, 1, 0, 9) && x.light(7, 7, 4)), 7, x -> x.fits(0, 1, 0, 0, 4, 0, 9));
+        EDGES.leaves(x -> bit(x.attend(0, 1, 0, 9)), NONE, x -> x.fits(6, 1, 0, 0, 4, 0, 9));
+    }
+
+    /** A question asked ahead of a change has no part in what is asked behind it. */
+    private static void asItIsNow() {
+        Edges.Scene scene = x -> {
+            x.thing(0);
+            x.image(0);
+            x.attend(1, 3, 0, 9);
+            Edges.tell(x, "way a move left 1;");
+            x.fits(0, 0, 0, 0, 3, 0, 99);
+        };
+        EDGES.promise(21, scene);
+        EDGES.says("by all as it is now");
+        EDGES.asked(10, x -> x.fits(0, 0, 0, 0, 3, 0, 99));
+        EDGES.leaves(x -> bit(x.person(1, 9, 0) && x.light(4, 4, 8)), 4, x -> x.fits(0, 0, 0, 0, 3, 0, 99));
+        EDGES.leaves(x -> bit(x.light(4, 4, 4)), 4, x -> x.fits(0, 0, 0, 0, 3, 0, 99));
+        EDGES.leaves(x -> bit(x.attend(1, NONE, 4, 4)), 4, x -> x.fits(0, 0, 0, 0, 3, 0, 99));
+        EDGES.leaves(x -> x.lead(1, 1, 4, 4), 4, x -> x.fits(0, 0, 0, 0, 3, 0, 99));
+        EDGES.leaves(x -> bit(x.hold(4, 0, 0, 10, 19)), 20, x -> x.fits(0, 0, 0, 0, 3, 0, 99));
+        EDGES.leaves(x -> bit(x.restore(0)), 0, x -> x.fits(0, 0, 0, 0, 3, 0, 99));
+        EDGES.leaves(x -> bit(x.room(4)) + x.thing(0), 0, x -> x.fits(0, 0, 0, 0, 3, 0, 99));
+        EDGES.leaves(x -> bit(x.room(3)) + x.thing(0), 0, x -> x.fits(0, 0, 0, 0, 3, 0, 99));
+        EDGES.leaves(x -> x.move(0, 0, 3, 9), NONE, x -> x.fits(0, 0, 0, 0, 3, 0, 99));
+        EDGES.leaves(x -> Edges.tell(x, "way a move right 3 dark 9;"), 10, x -> x.fits(0, 0, 0, 0, 3, 0, 99));
+        EDGES.leaves(x -> Edges.tell(x, "way a dark 9;"), 0, x -> x.fits(0, 0, 0, 0, 3, 0, 99));
+        EDGES.says("and of NEED alone");
+        EDGES.scene(x -> {
+            scene.set(x);
+            x.light(0, 99, 5);
+            x.fits(0, 0, 0, 0, 3, 0, 99);
+        });
+        EDGES.leaves(x -> bit(x.person(1, 6, 0)), 0, x -> x.fits(0, 0, 0, 0, 3, 0, 99));
+        EDGES.says("and of FIRM alone");
+        EDGES.scene(x -> {
+            scene.set(x);
+            x.lead(1, 5, 0, 5);
+            x.fits(0, 0, 0, 0, 3, 0, 99);
+        });
+        EDGES.leaves(x -> bit(x.person(1, 5, 5)), 10, x -> x.fits(0, 0, 0, 0, 3, 0, 99));
+        EDGES.leaves(x -> bit(x.person(1, 5, 4)), 0, x -> x.fits(0, 0, 0, 0, 3, 0, 99));
     }
 
     private WaysEdgesTest() {
