@@ -65,6 +65,13 @@ public final class RoomEdgesTest {
             int reason = i;
             EDGES.asked(0, x -> x.status(reason));
         }
+        EDGES.says("as at first, whatever other objects were told");
+        EDGES.alike(x -> { }, x -> {
+            RapTable other = new RapTable();
+            Edges.sitting(other);
+            other.room(9);
+            other.image(2);
+        });
         EDGES.says("LIGHT of a SECOND: 9 at first");
         EDGES.asked(9, x -> x.at(0, 0, 0));
         EDGES.asked(9, x -> x.at(0, 0, 99));

@@ -677,6 +677,10 @@ public final class WaysEdgesTest {
         EDGES.asked(20, x -> x.fits(3, 0, 0, 0, 4, 20, 99));
         EDGES.asked(NONE, x -> x.fits(4, 0, 0, 0, 4, 0, 99));
         EDGES.asked(9, x -> x.fits(4, 0, 8, 0, 4, 0, 99));
+        EDGES.says("swap: in this WAY alone, and anew in each SECOND that is tried");
+        EDGES.leaves(x -> x.fits(1, 0, 0, 0, 4, 0, 99), NONE, x -> x.fits(2, 0, 0, 0, 4, 0, 99));
+        EDGES.leaves(x -> Edges.tell(x, "way a free left swap left wait 1;"), NONE, x -> x.fits(0, 0, 0, 0, 4, 0, 99));
+        EDGES.leaves(x -> Edges.tell(x, "way a move left 1 swap left dark 0;"), NONE, x -> x.fits(0, 0, 0, 0, 4, 0, 99));
         EDGES.says("swap: but by who SEES the SPOT");
         EDGES.leaves(x -> bit(x.attend(2, 0, 11, 19)), 20, x -> x.fits(3, 0, 0, 0, 4, 0, 99));
         EDGES.says("as must be each SECOND that a STEP asks for: swap");
