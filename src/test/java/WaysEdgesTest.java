@@ -86,7 +86,7 @@ public final class WaysEdgesTest {
         for (int n : new int[] {-1, 41, MIN, MAX}) {
             EDGES.refused(2, x -> x.text(n));
         }
-        EDGES.taken(2 - 1, x -> x.text(20));
+        EDGES.taken(1, x -> x.text(20));
         EDGES.taken(0, x -> x.text(0));
         EDGES.says("above what there is: an empty TAPE");
         EDGES.scene(x -> taped(x, 0));
